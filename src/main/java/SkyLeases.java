@@ -231,7 +231,7 @@ public final class SkyLeases {
         if (!told.hasStar(s) || !told.hasSquare(q)) {
             return BAD;
         }
-        if (seen.size >= MOST_SEEN) {
+        if (seen.isFull()) {
             return FULL;
         }
         seen.add(s, q);
@@ -514,11 +514,14 @@ public final class SkyLeases {
         }
 
         boolean hasSquare(int row, int square, int squares) {
-            int behindFirst = square - part(row, SQUARE);
+            if (!has(row)) {
+                return false;
+            }
+            int behindFirst = square - parts[row * PARTS + SQUARE];
             if (behindFirst < 0) {
                 behindFirst += squares;
             }
-            return behindFirst < part(row, MANY);
+            return behindFirst < parts[row * PARTS + MANY];
         }
 
         boolean covers(int row, int square, int night, int squares) {
@@ -597,6 +600,9 @@ public final class SkyLeases {
         }
 
         int squareOf(int s, int night) {
+            if (!hasStar(s)) {
+                return NONE;
+            }
             int pace = paces[s];
             return pace < 1 ? starts[s] : aroundRing(starts[s] + night / pace);
         }
@@ -670,6 +676,9 @@ public final class SkyLeases {
 
         void undoLatest(Terms leases) {
             int latest = rows.size - 1;
+            if (!rows.has(latest)) {
+                return;
+            }
             if (places[latest] == BEGUN) {
                 leases.removeAt(leases.size - 1);
             } else {
@@ -696,7 +705,14 @@ public final class SkyLeases {
         private final int[] stars = new int[MOST_SEEN];
         private final int[] squares = new int[MOST_SEEN];
 
+        boolean isFull() {
+            return size >= MOST_SEEN;
+        }
+
         void add(int s, int q) {
+            if (isFull()) {
+                return;
+            }
             stars[size] = s;
             squares[size] = q;
             size++;
@@ -724,6 +740,9 @@ public final class SkyLeases {
 
         void settleLast(int price, int squares) {
             int last = terms.size - 1;
+            if (!terms.has(last)) {
+                return;
+            }
             prices[last] = price;
             squareBits[last] = 0;
             for (int q = 0; q < squares; q++) {
@@ -832,6 +851,9 @@ public final class SkyLeases {
         }
 
         void append(int value) {
+            if (!hasRoomFor(1)) {
+                return;
+            }
             bytes[length] = (char) value;
             length++;
         }

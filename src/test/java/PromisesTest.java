@@ -92,6 +92,7 @@ public final class PromisesTest {
         rateAndTrace();
         images();
         count();
+        allAtItsMost();
         for (String fault : faults) {
             System.out.println(fault);
         }
@@ -194,6 +195,15 @@ public final class PromisesTest {
         dueFault("4", 0);
         dueFault("  4", 2);
         dueFault("sky 4;skies", 6);
+        dueFault("skyz 4;", 0);
+        dueFault("zky 4;", 0);
+        dueFault("`ky 4;", 0);
+        dueFault("{", 0);
+        dueFault("tenant :;", 7);
+        dueFault("tenant /;", 7);
+        dueFault(" ".repeat(292) + "tenant 9", 300);
+        dueFault(" ".repeat(296) + "star", 300);
+        dueFault(" ".repeat(299) + "x", 299);
         dueFault("Sky 4;", 0);
         dueFault("sk", 0);
         dueFault("sky\t4;", 3);
@@ -261,6 +271,26 @@ public final class PromisesTest {
         due("anew: no text", x.sky(), 0);
         due("anew: no tenants", x.count(2), 0);
         due("anew: no leases", x.count(3), 0);
+
+        typeAll(x, "sky 7;star 6 0 1;tenant 5;lease 0 0 7 0 0;lease");
+        due("a fault behind right items", x.sky(), -57);
+        x.clear();
+        typeAll(x, "star 3 0 2;");
+        due("nothing of it is left", x.sky(), 1);
+        counts = new int[] {4, 1, 0, 0, 0, 0, 0, 0, 0};
+        for (int what = 0; what < counts.length; what++) {
+            due("after a fault: count(" + what + ")", x.count(what), counts[what]);
+        }
+        due("the star is the new one", x.star(0, 0), 3);
+
+        typeAll(x, "tenant 123");
+        x.clear();
+        typeAll(x, "tenant 1");
+        due("bytes that were cleared are not read", x.sky(), -18);
+        due("it goes on behind", typeAll(x, "2;"), 10);
+        due("sky", x.sky(), 1);
+        due("purse", x.purse(0), 12);
+        due("a text of 300 bytes", readOf(" ".repeat(291) + "tenant 9;"), 1);
     }
 
     private static void star() {
@@ -308,6 +338,8 @@ public final class PromisesTest {
         due("the first told", x.whose(0, 15), 2);
         due("after all", x.whose(4, 31), NONE);
         due("claims none", x.claims(1, 10), 0);
+        due("claims on night 0", x.claims(3, 0), 1);
+        due("claims on night 99", x.claims(3, 99), 1);
         due("claims one", x.claims(3, 10), 1);
         due("claims two", x.claims(3, 15), 2);
         due("claims two too", x.claims(0, 20), 2);
@@ -460,6 +492,21 @@ public final class PromisesTest {
         }
         due("the rest is lost", x.undo(), STATE);
         due("the last one left", x.lease(4, 3), 1);
+
+        SkyLeases y = told("tenant 5;" + "lease 0 0 1 0 0;lease 0 0 1 1 1;lease 0 0 1 2 2;lease 0 0 1 3 3;"
+                + "lease 0 0 1 4 4;lease 0 0 1 5 5;lease 0 0 1 6 6;lease 0 0 1 7 7;");
+        int[] ended = {0, 3, 5, 0, 2, 1, 1, 0};
+        for (int k : ended) {
+            y.ends(k);
+        }
+        for (int left = 1; left <= 6; left++) {
+            due("undo", y.undo(), left);
+        }
+        due("the oldest two are lost", y.undo(), STATE);
+        int[] nights = {1, 2, 3, 5, 6, 7};
+        for (int k = 0; k < nights.length; k++) {
+            due("lease " + k + " of those that are left", y.lease(k, 3), nights[k]);
+        }
     }
 
     private static void lot() {
@@ -552,6 +599,11 @@ public final class PromisesTest {
         }
         x.refuse();
         due("refused", x.letting(10, 20, 0), 0);
+        x.offer(0, 0, 1, 0, 99, 1);
+        due("a price of 1", x.letting(0, 99, 0), 1);
+        x.offer(1, 2, 1, 0, 99, 1);
+        x.offer(0, 5, 1, 0, 99, 1);
+        due("nothing of the refused is left", x.letting(0, 99, 1), 7);
     }
 
     private static void lettingOfEqualPrices() {
@@ -728,6 +780,19 @@ public final class PromisesTest {
         due("leases", x.count(3), 2);
         due("back(0) again", x.back(0), 1);
         due("the image was not changed", x.count(7), 1);
+        x.begins(0, 0, 1, 9, 9);
+        x.begins(0, 0, 1, 9, 9);
+        x.keep(1);
+        x.undo();
+        x.undo();
+        x.ends(0);
+        x.begins(0, 0, 1, 9, 9);
+        x.ends(0);
+        x.back(1);
+        due("a beginning is undone", x.undo(), 2);
+        due("and another", x.undo(), 1);
+        due("and an end", x.undo(), 2);
+        due("at its place", x.lease(1, 3), 5);
         for (int wrong : new int[] {-1, 2, Integer.MIN_VALUE, Integer.MAX_VALUE}) {
             due("keep of none", x.keep(wrong), BAD);
             due("back of none", x.back(wrong), BAD);
@@ -756,5 +821,46 @@ public final class PromisesTest {
         for (int wrong : new int[] {-1, 9, Integer.MIN_VALUE, Integer.MAX_VALUE}) {
             due("count of none", x.count(wrong), BAD);
         }
+    }
+
+    /** Every row is full, so that a step beyond one would show. */
+    private static void allAtItsMost() {
+        StringBuilder text = new StringBuilder("sky 8;");
+        for (int i = 0; i < 8; i++) {
+            text.append("star ").append(i).append(" 0 9;");
+        }
+        text.append("tenant 0;".repeat(4)).append("lease 3 0 8 0 99;").append("lease 0 0 1 0 0;".repeat(8));
+        SkyLeases x = told(text.toString());
+        due("a tenth lease", x.begins(2, 7, 8, 0, 99), 9);
+        for (int i = 0; i < 8; i++) {
+            due("offer " + i, x.offer(i % 4, i, 1, 0, 99, 99), i);
+            due("saw " + i, x.saw(i, i), i + 1);
+        }
+        due("all offers: prices", x.letting(0, 99, 0), 792);
+        due("all offers: set", x.letting(0, 99, 1), 255);
+        due("all dates", x.dates(0), 1000);
+        dueOdds(x, 3, 3, 99, 1, 1);
+        dueOdds(x, 2, 3, 1, 0, 1);
+        due("claims", x.claims(0, 0), 10);
+        due("dark behind all others", x.dark(2, 0, 99), 100);
+        due("meets", x.meets(3, 7, 99), 99);
+        for (int i = 0; i < 99; i++) {
+            x.night();
+        }
+        due("99 nights of seven stars", x.purse(3), 99 * 63);
+        due("rate", x.rate(4, 3), 99 * 63 - 8 + 3);
+        due("keep", x.keep(1), 99);
+        for (int left = 9; left >= 0; left--) {
+            due("ends", x.ends(left), left);
+        }
+        for (int left = 1; left <= 6; left++) {
+            due("undo", x.undo(), left);
+        }
+        due("back", x.back(1), 99);
+        due("ten leases", x.count(3), 10);
+        due("ends", x.ends(0), 9);
+        due("undo of an end, to ten", x.undo(), 10);
+        due("the first one is back", x.whose(5, 50), 3);
+        due("cycle", x.cycle(), 1);
     }
 }
