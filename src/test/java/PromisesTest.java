@@ -1,50 +1,8 @@
-import java.util.ArrayList;
-import java.util.List;
-
 /** For each promise: ordinary calls, the edges that the document names, and wrong calls. */
-public final class PromisesTest {
-    private static final int BAD = -1, STATE = -2, FULL = -3, NONE = -9, NO = -1000000;
+public final class PromisesTest extends Checks {
     private static final int[] WRONG_NUMBERS = {-1, Integer.MIN_VALUE, Integer.MAX_VALUE};
 
-    private static final List<String> faults = new ArrayList<>();
-
-    private static void due(String call, long got, long want) {
-        if (got != want) {
-            faults.add(call + " answered " + got + ", due is " + want);
-        }
-    }
-
-    /** Types a text by pieces of up to eight bytes; what the last piece answered. */
-    private static int typeAll(SkyLeases x, String text) {
-        int answer = x.count(8);
-        for (int at = 0; at < text.length(); at += 8) {
-            int end = Math.min(text.length(), at + 8);
-            long v = 0;
-            for (int i = at; i < end; i++) {
-                v = v << 8 | text.charAt(i);
-            }
-            answer = x.type(v, end - at);
-        }
-        return answer;
-    }
-
-    private static SkyLeases told(String text) {
-        SkyLeases x = new SkyLeases();
-        typeAll(x, text);
-        int items = x.sky();
-        if (items < 0) {
-            faults.add("the text " + text + " was refused: " + items);
-        }
-        return x;
-    }
-
-    private static int readOf(String text) {
-        SkyLeases x = new SkyLeases();
-        typeAll(x, text);
-        return x.sky();
-    }
-
-    private static void dueFault(String text, int place) {
+    private static void dueRefusedText(String text, int place) {
         SkyLeases x = told("sky 5;star 2 1 3;tenant 7;lease 0 1 2 3 4;");
         x.night();
         x.saw(0, 1);
@@ -93,13 +51,7 @@ public final class PromisesTest {
         images();
         count();
         allAtItsMost();
-        for (String fault : faults) {
-            System.out.println(fault);
-        }
-        System.out.println(faults.isEmpty() ? "all answers are as due" : faults.size() + " answers are not as due");
-        if (!faults.isEmpty()) {
-            System.exit(1);
-        }
+        end();
     }
 
     private static void newObject() {
@@ -182,64 +134,64 @@ public final class PromisesTest {
     }
 
     private static void skyRefuses() {
-        dueFault("sky 1;", 4);
-        dueFault("sky 9;", 4);
-        dueFault("sky;", 3);
-        dueFault("sky 4", 5);
-        dueFault("sky 4  ", 7);
-        dueFault("sky 4;sky 4;", 6);
-        dueFault("tenant 1;sky 4;", 9);
-        dueFault("sky 4 4;", 6);
-        dueFault(";", 0);
-        dueFault("sky 4;;", 6);
-        dueFault("4", 0);
-        dueFault("  4", 2);
-        dueFault("sky 4;skies", 6);
-        dueFault("skyz 4;", 0);
-        dueFault("zky 4;", 0);
-        dueFault("`ky 4;", 0);
-        dueFault("{", 0);
-        dueFault("tenant :;", 7);
-        dueFault("tenant /;", 7);
-        dueFault(" ".repeat(292) + "tenant 9", 300);
-        dueFault(" ".repeat(296) + "star", 300);
-        dueFault(" ".repeat(299) + "x", 299);
-        dueFault("Sky 4;", 0);
-        dueFault("sk", 0);
-        dueFault("sky\t4;", 3);
-        dueFault("sky -4;", 4);
-        dueFault("sky 4.;", 5);
-        dueFault("tenant " + (char) 0 + ";", 7);
-        dueFault("tenant " + (char) 255 + ";", 7);
-        dueFault("star 4 0 1;", 5);
-        dueFault("sky 2;star 2 0 1;", 11);
-        dueFault("star 0 10 1;", 7);
-        dueFault("star 0 9 0;", 9);
-        dueFault("star 0 9 10;", 9);
-        dueFault("star 0 9;", 8);
-        dueFault("star 0 9 1 1;", 11);
-        dueFault("star 0 9 1 star", 11);
-        dueFault("star", 4);
-        dueFault("star 0", 6);
-        dueFault("star 0 1 1", 10);
-        dueFault("tenant 100;", 7);
-        dueFault("tenant 00;", 7);
-        dueFault("tenant 09;", 7);
-        dueFault("tenant 4294967296;", 7);
-        dueFault("tenant 18446744073709551617;", 7);
-        dueFault("tenant 100", 7);
-        dueFault("tenant 1x;", 8);
-        dueFault("lease 0 0 1 0 0;tenant 5;", 6);
-        dueFault("tenant 5;lease 1 0 1 0 0;", 15);
-        dueFault("tenant 5;lease 0 4 1 0 0;", 17);
-        dueFault("tenant 5;lease 0 3 0 0 0;", 19);
-        dueFault("tenant 5;lease 0 3 5 0 0;", 19);
-        dueFault("tenant 5;lease 0 3 4 100 0;", 21);
-        dueFault("tenant 5;lease 0 3 4 99 98;", 24);
-        dueFault("tenant 5;lease 0 3 4 0;", 22);
-        dueFault("tenant 5;tenant 5;tenant 5;tenant 5;tenant 5;", 36);
-        dueFault("star 0 0 1;".repeat(8) + "star 9", 88);
-        dueFault("tenant 0;" + "lease 0 0 1 0 0;".repeat(10) + "lease x", 169);
+        dueRefusedText("sky 1;", 4);
+        dueRefusedText("sky 9;", 4);
+        dueRefusedText("sky;", 3);
+        dueRefusedText("sky 4", 5);
+        dueRefusedText("sky 4  ", 7);
+        dueRefusedText("sky 4;sky 4;", 6);
+        dueRefusedText("tenant 1;sky 4;", 9);
+        dueRefusedText("sky 4 4;", 6);
+        dueRefusedText(";", 0);
+        dueRefusedText("sky 4;;", 6);
+        dueRefusedText("4", 0);
+        dueRefusedText("  4", 2);
+        dueRefusedText("sky 4;skies", 6);
+        dueRefusedText("skyz 4;", 0);
+        dueRefusedText("zky 4;", 0);
+        dueRefusedText("`ky 4;", 0);
+        dueRefusedText("{", 0);
+        dueRefusedText("tenant :;", 7);
+        dueRefusedText("tenant /;", 7);
+        dueRefusedText(" ".repeat(292) + "tenant 9", 300);
+        dueRefusedText(" ".repeat(296) + "star", 300);
+        dueRefusedText(" ".repeat(299) + "x", 299);
+        dueRefusedText("Sky 4;", 0);
+        dueRefusedText("sk", 0);
+        dueRefusedText("sky\t4;", 3);
+        dueRefusedText("sky -4;", 4);
+        dueRefusedText("sky 4.;", 5);
+        dueRefusedText("tenant " + (char) 0 + ";", 7);
+        dueRefusedText("tenant " + (char) 255 + ";", 7);
+        dueRefusedText("star 4 0 1;", 5);
+        dueRefusedText("sky 2;star 2 0 1;", 11);
+        dueRefusedText("star 0 10 1;", 7);
+        dueRefusedText("star 0 9 0;", 9);
+        dueRefusedText("star 0 9 10;", 9);
+        dueRefusedText("star 0 9;", 8);
+        dueRefusedText("star 0 9 1 1;", 11);
+        dueRefusedText("star 0 9 1 star", 11);
+        dueRefusedText("star", 4);
+        dueRefusedText("star 0", 6);
+        dueRefusedText("star 0 1 1", 10);
+        dueRefusedText("tenant 100;", 7);
+        dueRefusedText("tenant 00;", 7);
+        dueRefusedText("tenant 09;", 7);
+        dueRefusedText("tenant 4294967296;", 7);
+        dueRefusedText("tenant 18446744073709551617;", 7);
+        dueRefusedText("tenant 100", 7);
+        dueRefusedText("tenant 1x;", 8);
+        dueRefusedText("lease 0 0 1 0 0;tenant 5;", 6);
+        dueRefusedText("tenant 5;lease 1 0 1 0 0;", 15);
+        dueRefusedText("tenant 5;lease 0 4 1 0 0;", 17);
+        dueRefusedText("tenant 5;lease 0 3 0 0 0;", 19);
+        dueRefusedText("tenant 5;lease 0 3 5 0 0;", 19);
+        dueRefusedText("tenant 5;lease 0 3 4 100 0;", 21);
+        dueRefusedText("tenant 5;lease 0 3 4 99 98;", 24);
+        dueRefusedText("tenant 5;lease 0 3 4 0;", 22);
+        dueRefusedText("tenant 5;tenant 5;tenant 5;tenant 5;tenant 5;", 36);
+        dueRefusedText("star 0 0 1;".repeat(8) + "star 9", 88);
+        dueRefusedText("tenant 0;" + "lease 0 0 1 0 0;".repeat(10) + "lease x", 169);
     }
 
     private static void skyReadAnew() {
