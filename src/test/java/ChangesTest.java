@@ -46,28 +46,42 @@ public final class ChangesTest extends Checks {
         x.night();
         x.keep(1);
         x.lot(123456);
-        x.ends(1);
         x.night();
+        x.ends(1);
         x.offer(0, 0, 1, 0, 99, 40);
         x.offer(2, 2, 1, 5, 60, 30);
         x.saw(0, 4);
         typeAll(x, "sky 3;star 1 1 1;tenant 44");
+        dueCounts("rich", x, 5, 3, 3, 2, 2, 1, 3, 3, 26);
         return x;
     }
 
     /** As much as there may be of all that is bounded. */
     private static SkyLeases full() {
-        SkyLeases x = told("sky 8;" + "star 7 1 9;".repeat(8) + "tenant 99;".repeat(4) + "lease 3 0 8 0 99;".repeat(4));
+        StringBuilder text = new StringBuilder("sky 8;" + "star 7 1 9;".repeat(8) + "tenant 99;".repeat(4));
+        for (int k = 0; k < 6; k++) {
+            text.append("lease 3 0 8 0 ").append(80 + k).append(';');
+        }
+        SkyLeases x = told(text.toString());
         pass(x, NIGHT_99);
-        for (int k = 4; k < 10; k++) {
-            x.begins(k % 4, k - 4, 8, k, 90 + k);
+        // One end ahead of five that began: the oldest of what is known is not like the others.
+        x.ends(2);
+        for (int k = 5; k < 10; k++) {
+            x.begins(k % 4, k - 5, 8, k, 90 + k);
         }
         for (int i = 0; i < 8; i++) {
             x.offer(i % 4, i, 1, 0, 99, 99);
             x.saw(i, 6);
         }
         typeAll(x, " ".repeat(292) + "tenant 5");
+        dueCounts("full", x, 8, 8, 4, 10, 8, 8, NIGHT_99, 6, 300);
         return x;
+    }
+
+    private static void dueCounts(String name, SkyLeases x, int... counts) {
+        for (int what = 0; what < counts.length; what++) {
+            due("count(" + what + ") of the " + name + " object", x.count(what), counts[what]);
+        }
     }
 
     private static List<Long> ask(SkyLeases x, Part part) {

@@ -347,7 +347,7 @@ public final class TermsTest extends Checks {
 
     private static void otherWords() {
         for (String word : new String[] {"s", "sk", "skyy", "stars", "sta", "tenants", "tenan", "leas", "leases", "ease",
-            "skystar", "a", "z", "zky", "staz", "tenanz", "leasz"}) {
+            "skystar", "a", "z", "zky", "skyz", "skya", "starz", "staz", "tenantz", "leasez", "atenant"}) {
             dueFault(word + " 4;", 0);
             dueFault("tenant 0; " + word, 10);
             dueFault("tenant  " + word + ";", 8);
@@ -626,6 +626,18 @@ public final class TermsTest extends Checks {
         }
         due("the end is lost", y.undo(), STATE);
         dueLastNights(y, "the end is lost", 11);
+
+        SkyLeases z = withLeases(10);
+        for (int k : new int[] {9, 0, 4, 2, 5, 1, 3}) {
+            z.ends(k);
+        }
+        z.begins(0, 0, 1, 0, 90);
+        dueLastNights(z, "ahead", 11, 14, 16, 90);
+        for (int left = 3; left <= 8; left++) {
+            due("undo() to " + left, z.undo(), left);
+        }
+        due("the first two are lost", z.undo(), STATE);
+        dueLastNights(z, "the others are at their places", 11, 12, 13, 14, 15, 16, 17, 18);
     }
 
     private static void nothingElseIsUndone() {
@@ -1157,9 +1169,21 @@ public final class TermsTest extends Checks {
         due("back(1)", x.back(1), STATE);
         due("the lot", x.lot(0), -5);
         x.keep(0);
-        x.sky();
-        due("by an empty text, too", x.back(0), STATE);
-        due("no tenants", x.count(2), 0);
+        // More than one reading, so that nothing of an older sky comes up again.
+        for (int i = 0; i < 3; i++) {
+            due("sky() of an empty text", x.sky(), 0);
+            due("by an empty text, too", x.back(0), STATE);
+            for (int what = 0; what < counts.length; what++) {
+                due("count(" + what + ") of an empty text", x.count(what), what == 0 ? 4 : 0);
+            }
+        }
+        typeAll(x, "sky 7;star 6 1 1;tenant 1;lease 0 0 1 0 0;?");
+        due("a fault", x.sky(), -10 - 42);
+        x.clear();
+        due("sky() of an empty text", x.sky(), 0);
+        for (int what = 0; what < counts.length; what++) {
+            due("count(" + what + ") behind a fault", x.count(what), what == 0 ? 4 : 0);
+        }
     }
 
     private static void firstOfThese() {
