@@ -394,14 +394,31 @@ public final class TermsTest extends Checks {
     // ---- 2
 
     private static void whoseAndNights() {
+        says("the TENANT's of the LEASE that has it then", TermsTest::leaseThatHasIt);
         says("of several the one told first", TermsTest::oneToldFirst);
         says("CLAIMS: how many LEASES have it then", TermsTest::claimsOfNoneToTen);
         says("A STAR's owner: WHOSE its SQUARE is", TermsTest::ownersOfStars);
         says("NIGHT (0 at first, 99 at most)", TermsTest::nightsTo99);
         says("THE LOT goes on (times 1103515245 and 12345, wrapped", TermsTest::lotIsWrapped);
         says("DRAW: its upper 16 bits, left over by n)", TermsTest::draws);
+        says("a CLOUD over the SQUARE of that number", TermsTest::cloudOverEachSquare);
         says("each STAR that is not under it brings its owner BRIGHT (nobody's: none)", TermsTest::rents);
         says("it is the next NIGHT", TermsTest::rentsOfTheNightThatWentBy);
+    }
+
+    private static void leaseThatHasIt() {
+        SkyLeases x = told("sky 8;" + "tenant 0;".repeat(4) + "lease 3 7 2 98 99;lease 2 0 8 50 50;lease 1 3 1 0 0;");
+        due("the last night, round", x.whose(0, 99), 3);
+        due("the last night", x.whose(7, 99), 3);
+        due("behind its squares", x.whose(1, 99), NONE);
+        due("the night ahead", x.whose(0, 97), NONE);
+        for (int q = 0; q < 8; q++) {
+            due("all squares on 50", x.whose(q, 50), 2);
+            due("none on 49", x.whose(q, 49), NONE);
+            due("none on 51", x.whose(q, 51), NONE);
+            due("one on 0", x.whose(q, 0), q == 3 ? 1 : NONE);
+        }
+        due("no leases", told("tenant 0;").whose(0, 0), NONE);
     }
 
     private static void oneToldFirst() {
@@ -483,6 +500,20 @@ public final class TermsTest extends Checks {
                     x.lot(lotAhead(draw << 16 | lower));
                     due("the cloud of " + draw + " by " + n, x.night(), draw % n);
                 }
+            }
+        }
+    }
+
+    private static void cloudOverEachSquare() {
+        for (int n = 2; n <= 8; n++) {
+            for (int cloud = 0; cloud < n; cloud++) {
+                // Tenant 0 has the first square's star, tenant 1 the last one's.
+                SkyLeases x = told("sky " + n + ";star 0 0 1;star " + (n - 1) + " 0 1;tenant 0;tenant 0;"
+                    + "lease 0 0 1 0 0;lease 1 " + (n - 1) + " 1 0 0;");
+                x.lot(lotAhead(cloud << 16));
+                due("the cloud by " + n, x.night(), cloud);
+                due("the first square under cloud " + cloud, x.purse(0), cloud == 0 ? 0 : 1);
+                due("the last square under cloud " + cloud, x.purse(1), cloud == n - 1 ? 0 : 1);
             }
         }
     }
@@ -668,6 +699,7 @@ public final class TermsTest extends Checks {
 
     private static void cycleDarkAndMeets() {
         says("CYCLE: the fewest NIGHTS (1 at least) by which all goes on as ahead", TermsTest::cycles);
+        says("on each NIGHT all STARS are where they are so many NIGHTS later", TermsTest::allAsAhead);
         says("DARK NIGHTS of a TENANT from NIGHT a to b: those on which it has a LEASE", TermsTest::darkByLease);
         says("in its SQUARES (WHOSE is its) is no STAR", TermsTest::darkByStars);
         says("MEETS: the first NIGHT from a on (to 99) on which a STAR is its; NONE.", TermsTest::meetsTo99);
@@ -686,6 +718,38 @@ public final class TermsTest extends Checks {
         due("paces 6 and 9", told("sky 2;star 0 6 1;star 0 9 1;").cycle(), 36);
         due("the most of all", told("sky 8;star 0 9 1;star 0 8 1;star 0 7 1;star 0 5 1;star 0 0 1;").cycle(), 20160);
         due("the most, told the other way", told("sky 8;star 0 5 1;star 0 7 1;star 0 8 1;star 0 9 1;").cycle(), 20160);
+    }
+
+    private static void allAsAhead() {
+        String[] texts = {"sky 2;star 0 1 1;star 1 3 1;", "sky 5;star 4 2 1;star 0 4 1;star 1 0 1;",
+            "sky 8;star 0 3 1;star 7 6 1;", "sky 3;star 2 9 1;star 2 6 1;star 0 2 1;"};
+        for (String text : texts) {
+            SkyLeases x = told(text);
+            int cycle = x.cycle();
+            due("the fewest by " + text, fewestThatFit(x), cycle);
+        }
+    }
+
+    private static int fewestThatFit(SkyLeases x) {
+        // The places are asked once each, so that the calls stay few; no cycle here is beyond 60.
+        int[][] places = new int[x.count(1)][120];
+        for (int s = 0; s < places.length; s++) {
+            for (int night = 0; night < 120; night++) {
+                places[s][night] = x.star(s, night);
+            }
+        }
+        for (int later = 1; later <= 60; later++) {
+            boolean fits = true;
+            for (int[] row : places) {
+                for (int night = 0; night + later < 120; night++) {
+                    fits &= row[night] == row[night + later];
+                }
+            }
+            if (fits) {
+                return later;
+            }
+        }
+        return NONE;
     }
 
     private static void darkByLease() {
@@ -733,7 +797,10 @@ public final class TermsTest extends Checks {
 
     private static void lettings() {
         says("OFFERS 0 .. (8 at most)", TermsTest::eightOffers);
+        says("a TENANT, SQUARES (from one on, so many)", TermsTest::squaresOfAnOffer);
         says("a PRICE (1 .. 99)", TermsTest::prices);
+        says("for NIGHTS F to U", TermsTest::nightsOfAnOffer);
+        says("LETTING in winter (NIGHTS a to b)", TermsTest::nightsOfWinter);
         says("of all sets of OFFERS of which no two have a SQUARE on one NIGHT", TermsTest::noTwoOnOneNight);
         says("by which on each NIGHT of a to b", TermsTest::eachNightOfWinter);
         says("each TENANT of an OFFER in it that holds then has a STAR in its OFFERS' SQUARES", TermsTest::noneIsDark);
@@ -752,6 +819,65 @@ public final class TermsTest extends Checks {
         due("their prices", x.letting(0, 99, 0), 191);
         due("refuse", x.refuse(), 8);
         due("the first again", x.offer(0, 0, 1, 0, 99, 1), 0);
+    }
+
+    private static void squaresOfAnOffer() {
+        for (int n = 2; n <= 8; n++) {
+            for (int q = 0; q < n; q++) {
+                SkyLeases x = told("sky " + n + ";star " + q + " 0 1;tenant 0;");
+                for (int many = 1; many <= n; many++) {
+                    x.refuse();
+                    int first = (q + 1) % n;
+                    due("offer", x.offer(0, first, many, 0, 99, 1), 0);
+                    due(many + " from " + first + " on by " + n, x.letting(0, 99, 1), many == n ? 1 : 0);
+                    x.refuse();
+                    x.offer(0, (q + n - many + 1) % n, many, 0, 99, 1);
+                    due(many + " up to " + q + " by " + n, x.letting(0, 99, 1), 1);
+                }
+                due("so many as none", x.offer(0, 0, 0, 0, 99, 1), BAD);
+                due("more than all", x.offer(0, 0, n + 1, 0, 99, 1), BAD);
+                due("from behind the last on", x.offer(0, n, 1, 0, 99, 1), BAD);
+                due("from ahead of the first on", x.offer(0, -1, 1, 0, 99, 1), BAD);
+            }
+        }
+        SkyLeases x = told("tenant 0;tenant 0;");
+        due("the last tenant", x.offer(1, 0, 1, 0, 0, 1), 0);
+        due("no such tenant", x.offer(2, 0, 1, 0, 0, 1), BAD);
+        due("no such tenant", x.offer(-1, 0, 1, 0, 0, 1), BAD);
+    }
+
+    private static void nightsOfAnOffer() {
+        // There is no star, so that an offer is let on those nights alone on which it does not hold.
+        SkyLeases x = told("tenant 0;");
+        int[][] nights = {{0, 0}, {0, 99}, {99, 99}, {7, 9}, {50, 50}};
+        for (int[] night : nights) {
+            x.refuse();
+            due("offer", x.offer(0, 0, 1, night[0], night[1], 1), 0);
+            for (int at : new int[] {0, night[0] - 1, night[0], night[1], night[1] + 1, 99}) {
+                if (at >= 0 && at <= 99) {
+                    due("let on " + at + ", from " + night[0] + " to " + night[1], x.letting(at, at, 1),
+                        night[0] <= at && at <= night[1] ? 0 : 1);
+                }
+            }
+        }
+        int[][] wrong = {{-1, 0}, {-1, -1}, {0, 100}, {100, 100}, {1, 0}, {99, 98}};
+        for (int[] night : wrong) {
+            due("offer from " + night[0] + " to " + night[1], x.offer(0, 0, 1, night[0], night[1], 1), BAD);
+        }
+    }
+
+    private static void nightsOfWinter() {
+        SkyLeases x = told("star 0 0 1;tenant 0;");
+        x.offer(0, 0, 1, 0, 99, 5);
+        int[][] winters = {{0, 0}, {0, 99}, {99, 99}, {98, 99}, {50, 50}};
+        for (int[] w : winters) {
+            due("letting from " + w[0] + " to " + w[1], x.letting(w[0], w[1], 0), 5);
+        }
+        int[][] wrong = {{-1, 0}, {-1, -1}, {0, 100}, {100, 100}, {1, 0}, {99, 98}, {99, 0}};
+        for (int[] w : wrong) {
+            due("letting from " + w[0] + " to " + w[1], x.letting(w[0], w[1], 0), BAD);
+            due("the set from " + w[0] + " to " + w[1], x.letting(w[0], w[1], 1), BAD);
+        }
     }
 
     private static void prices() {
@@ -1021,6 +1147,12 @@ public final class TermsTest extends Checks {
         says("(Read anew: NIGHT 0, as told, no OFFERS, nothing SEEN or to be UNDONE, IMAGES are gone; THE LOT stays.)",
             TermsTest::readAnew);
         says("BAD (a number is not as told, or there is no such thing), STATE (as told), FULL.", TermsTest::firstOfThese);
+        says("public static final int BAD = -1, STATE = -2, FULL = -3, NONE = -9;", () -> {
+            due("BAD", SkyLeases.BAD, BAD);
+            due("STATE", SkyLeases.STATE, STATE);
+            due("FULL", SkyLeases.FULL, FULL);
+            due("NONE", SkyLeases.NONE, NONE);
+        });
         says("`NO = -1000000`: What none is, where a number may be below 0.", TermsTest::belowZero);
     }
 
